@@ -20,6 +20,7 @@ public final class LastHouse {
     private static final int MOST_LAYERS = 12;
     private static final int MOST_KNOTS = 64;
     private static final int MOST_OPEN = 8;
+    private static final int MOST_IN_LAW = 9999;
     private static final int MOST_SEEN = 24;
     private static final int MOST_DONE = 20;
     private static final int MOST_BY = 20;
@@ -32,6 +33,7 @@ public final class LastHouse {
     private static final int MOST_YEARS = 200;
     private static final int MOST_YEARS_SEEN = 60;
     private static final int LATEST_YEAR = 9000;
+    private static final int MOST_FAR_ASKED = 9999;
 
     /** The words of the language; a word's place in this row is its kind as a token. */
     private static final String WORDS =
@@ -559,7 +561,7 @@ public final class LastHouse {
     }
 
     public int ease(int man, int n) {
-        if (!isMan(man) || n < 0 || n > 9999) {
+        if (!isMan(man) || n < 0 || n > MOST_FAR_ASKED) {
             return NONE;
         }
         return reckoner.fewestOff(told, now, man, n);
@@ -827,7 +829,7 @@ public final class LastHouse {
             }
         }
 
-        /** The value of E by the names' values, or ERROR. */
+        /** The value of E by the names' values; ERROR also without a law. */
         long worth(int[] names, long[] stack) {
             int top = 0;
             for (int i = 0; i < size; i++) {
@@ -842,13 +844,13 @@ public final class LastHouse {
                     if (top < 1) {
                         return ERROR;
                     }
-                    stack[top - 1] = truth(stack[top - 1] == 0);
+                    stack[top - 1] = stack[top - 1] == 0 ? 1 : 0;
                 } else {
                     if (top < 2) {
                         return ERROR;
                     }
                     top--;
-                    stack[top - 1] = reckon(k, stack[top - 1], stack[top]);
+                    stack[top - 1] = k < PLUS ? compare(k, stack[top - 1], stack[top]) : reckon(k, stack[top - 1], stack[top]);
                     if (stack[top - 1] == ERROR) {
                         return ERROR;
                     }
@@ -857,51 +859,61 @@ public final class LastHouse {
             return top == 1 ? stack[0] : ERROR;
         }
 
-        private static long reckon(int sign, long a, long b) {
+        private static long compare(int sign, long a, long b) {
+            boolean so;
             switch (sign) {
                 case OR:
-                    return truth(a != 0 || b != 0);
+                    so = a != 0 || b != 0;
+                    break;
                 case AND:
-                    return truth(a != 0 && b != 0);
+                    so = a != 0 && b != 0;
+                    break;
                 case LESS:
-                    return truth(a < b);
+                    so = a < b;
+                    break;
                 case LESS_OR_SAME:
-                    return truth(a <= b);
+                    so = a <= b;
+                    break;
                 case SAME:
-                    return truth(a == b);
+                    so = a == b;
+                    break;
                 case UNLIKE:
-                    return truth(a != b);
+                    so = a != b;
+                    break;
                 case MORE_OR_SAME:
-                    return truth(a >= b);
-                case MORE:
-                    return truth(a > b);
-                case PLUS:
-                    return within(a + b);
-                case MINUS:
-                    return within(a - b);
-                case TIMES:
-                    return product(a, b);
-                case OVER:
-                    return b == 0 ? ERROR : a / b;
+                    so = a >= b;
+                    break;
                 default:
-                    return ERROR;
+                    so = a > b;
+                    break;
             }
-        }
-
-        private static long truth(boolean so) {
             return so ? 1 : 0;
         }
 
-        private static long within(long value) {
-            return value > MOST_VALUE || value < -MOST_VALUE ? ERROR : value;
-        }
-
-        /** Looks ahead by a quotient, for the product itself may not fit into a long. */
-        private static long product(long a, long b) {
-            if (a == 0 || b == 0) {
-                return 0;
+        private static long reckon(int sign, long a, long b) {
+            long result;
+            switch (sign) {
+                case PLUS:
+                    result = a + b;
+                    break;
+                case MINUS:
+                    result = a - b;
+                    break;
+                case TIMES:
+                    // A quotient tells it ahead, for the product itself may not fit into a long.
+                    if (a != 0 && (b < 0 ? -b : b) > MOST_VALUE / (a < 0 ? -a : a)) {
+                        return ERROR;
+                    }
+                    result = a * b;
+                    break;
+                default:
+                    if (b == 0) {
+                        return ERROR;
+                    }
+                    result = a / b;
+                    break;
             }
-            return Math.abs(b) > MOST_VALUE / Math.abs(a) ? ERROR : a * b;
+            return result > MOST_VALUE || result < -MOST_VALUE ? ERROR : result;
         }
     }
 
@@ -1057,73 +1069,82 @@ public final class LastHouse {
             fault = 0;
             faultPlace = NONE;
             tape.start(length);
-            for (int i = 0; i <= MOST_BYTES && tape.kind != END; i++) {
-                if (!readLine()) {
-                    return false;
+            for (int i = 0; i <= MOST_BYTES && tape.kind != END && fault == 0; i++) {
+                switch (tape.kind) {
+                    case HOUSE:
+                        readHouse();
+                        break;
+                    case MAN:
+                        readMan();
+                        break;
+                    case ADD:
+                    case SLICE:
+                        readDeed();
+                        break;
+                    case WED:
+                        readWedding();
+                        break;
+                    case STRIP:
+                        readStrip();
+                        break;
+                    case DAMP:
+                        readDamp();
+                        break;
+                    case SEED:
+                        readSeed();
+                        break;
+                    case LAW:
+                        readLaw();
+                        break;
+                    default:
+                        fail(FAULT_TOKEN);
+                        break;
                 }
-                if (tape.kind != STOP) {
-                    return fail(FAULT_TOKEN);
-                }
+                endLine();
+            }
+            return fault == 0;
+        }
+
+        private void endLine() {
+            if (fault == 0 && tape.kind != STOP) {
+                fail(FAULT_TOKEN);
+            }
+            if (fault == 0) {
                 tape.step();
                 told.lines++;
             }
-            return true;
         }
 
-        private boolean fail(int kind) {
+        private void fail(int kind) {
             fault = kind;
             faultPlace = tape.place;
-            return false;
         }
 
-        private boolean readLine() {
-            switch (tape.kind) {
-                case HOUSE:
-                    return readHouse();
-                case MAN:
-                    return readMan();
-                case ADD:
-                case SLICE:
-                    return readDeed();
-                case WED:
-                    return readWedding();
-                case STRIP:
-                    return readStrip();
-                case DAMP:
-                    return readDamp();
-                case SEED:
-                    return readSeed();
-                case LAW:
-                    return readLaw();
-                default:
-                    return fail(FAULT_TOKEN);
-            }
-        }
-
-        private boolean readHouse() {
+        private void readHouse() {
             int k = told.houses;
             if (k >= MOST_HOUSES) {
-                return fail(FAULT_TOO_MUCH);
+                fail(FAULT_TOO_MUCH);
+                return;
             }
             tape.step();
             if (!isNewName(told.houseName, k)) {
-                return false;
+                return;
             }
             told.houseName[k] = tape.value;
             tape.step();
             told.houseWood[k] = takeNumber(0, 99);
             told.houses++;
-            return fault == 0;
         }
 
-        private boolean readMan() {
+        private void readMan() {
             int k = told.folk;
             if (k >= MOST_FOLK) {
-                return fail(FAULT_TOO_MUCH);
+                fail(FAULT_TOO_MUCH);
+                return;
             }
             tape.step();
             if (!isNewName(told.manName, k)) {
-                return false;
+                return;
             }
             told.manName[k] = tape.value;
             tape.step();
@@ -1132,12 +1153,12 @@ public final class LastHouse {
             told.manZone[k] = takeNumber(0, ZONES - 1);
             told.manBump[k] = takeNumber(0, MOST_BUMP_TOLD);
             told.folk++;
-            return fault == 0;
         }
 
-        private boolean readDeed() {
+        private void readDeed() {
             if (told.deeds >= MOST_DEEDS) {
-                return fail(FAULT_TOO_MUCH);
+                fail(FAULT_TOO_MUCH);
+                return;
             }
             Deed deed = told.deed[told.deeds];
             deed.slice = tape.kind == SLICE;
@@ -1147,61 +1168,63 @@ public final class LastHouse {
             deed.by = takeNumber(1, MOST_BY);
             deed.year = takeNumber(0, MOST_YEAR_TOLD);
             told.deeds++;
-            return fault == 0;
         }
 
-        private boolean readWedding() {
+        private void readWedding() {
             if (told.weddings >= MOST_WEDDINGS) {
-                return fail(FAULT_TOO_MUCH);
+                fail(FAULT_TOO_MUCH);
+                return;
             }
             Wedding wedding = told.wedding[told.weddings];
             tape.step();
             int letters = tape.value;
             wedding.one = takeToldName(told.manName, told.folk);
             if (fault == 0 && tape.kind == OWN_WORD && tape.value == letters) {
-                return fail(FAULT_WED_TO_ONESELF);
+                fail(FAULT_WED_TO_ONESELF);
+                return;
             }
             wedding.other = takeToldName(told.manName, told.folk);
             wedding.year = takeNumber(0, MOST_YEAR_TOLD);
             told.weddings++;
-            return fault == 0;
         }
 
-        private boolean readStrip() {
+        private void readStrip() {
             if (told.strips >= MOST_STRIPS) {
-                return fail(FAULT_TOO_MUCH);
+                fail(FAULT_TOO_MUCH);
+                return;
             }
             tape.step();
             told.stripYear[told.strips] = takeNumber(0, MOST_YEAR_TOLD);
             told.strips++;
-            return fault == 0;
         }
 
-        private boolean readDamp() {
+        private void readDamp() {
             if (dampTold) {
-                return fail(FAULT_TOLD_ALREADY);
+                fail(FAULT_TOLD_ALREADY);
+                return;
             }
             dampTold = true;
             tape.step();
             told.damp = takeNumber(0, 100);
-            return fault == 0;
         }
 
-        private boolean readSeed() {
+        private void readSeed() {
             if (seedTold) {
-                return fail(FAULT_TOLD_ALREADY);
+                fail(FAULT_TOLD_ALREADY);
+                return;
             }
             seedTold = true;
             tape.step();
             told.seed = takeNumber(0, 99999);
-            return fault == 0;
         }
 
         private boolean isNewName(int[] names, int many) {
             if (tape.kind != OWN_WORD) {
-                return fail(FAULT_TOKEN);
+                fail(FAULT_TOKEN);
+            } else if (find(names, many, tape.value) != NONE) {
+                fail(FAULT_TOLD_ALREADY);
             }
-            return find(names, many, tape.value) == NONE || fail(FAULT_TOLD_ALREADY);
+            return fault == 0;
         }
 
         /** The number of a name that was told ahead; with a fault, also one met earlier in the line, 0 that is not used. */
@@ -1238,104 +1261,100 @@ public final class LastHouse {
             return 0;
         }
 
-        private boolean readLaw() {
+        private void readLaw() {
             tape.step();
             int kind = tape.kind;
             if (kind != THICK && kind != BEAR && kind != CORN) {
-                return fail(FAULT_TOKEN);
+                fail(FAULT_TOKEN);
+                return;
             }
             Law law = kind == THICK ? told.thick : kind == BEAR ? told.bear : told.corn;
             if (law.isTold) {
-                return fail(FAULT_TOLD_ALREADY);
+                fail(FAULT_TOLD_ALREADY);
+                return;
             }
             law.isTold = true;
             tape.step();
-            return readValue(law);
+            readValue(law);
         }
 
         /** An E, up to the first token that can't go on with it; by a stack of signs that wait for what is behind them. */
-        private boolean readValue(Law law) {
+        private void readValue(Law law) {
             waits = 0;
             open = 0;
             boolean partIsDue = true;
-            for (int i = 0; i <= MOST_BYTES; i++) {
+            for (int i = 0; i <= MOST_BYTES && fault == 0; i++) {
                 int kind = tape.kind;
                 if (partIsDue) {
-                    if (!takeStart(law)) {
-                        return false;
-                    }
+                    takeStart(law, kind);
                     partIsDue = kind == NOT || kind == OPEN;
                 } else if (binding(kind) > 0 && kind != NOT) {
-                    if (!takeSign(law, kind)) {
-                        return false;
-                    }
+                    takeSign(law, kind);
                     partIsDue = true;
                 } else if (kind == CLOSE && open > 0) {
-                    release(law, BINDS_OR);
-                    waits--;
-                    open--;
+                    takeClose(law);
                 } else {
                     release(law, BINDS_OR);
-                    return open == 0 || fail(FAULT_TOKEN);
+                    if (open > 0) {
+                        fail(FAULT_TOKEN);
+                    }
+                    return;
                 }
-                tape.step();
+                if (fault == 0) {
+                    tape.step();
+                }
             }
-            return fail(FAULT_TOKEN);
         }
 
-        private boolean takeStart(Law law) {
-            int kind = tape.kind;
+        private void takeStart(Law law, int kind) {
             if (kind == OPEN) {
-                if (open >= MOST_OPEN) {
-                    return fail(FAULT_TOO_MUCH);
-                }
                 open++;
-                return await(OPEN);
-            }
-            if (kind == NOT) {
+                await(OPEN, open <= MOST_OPEN);
+            } else if (kind == NOT) {
                 if (waits > 0 && binding(waiting[waits - 1]) > BINDS_NOT) {
-                    return fail(FAULT_TOKEN);
+                    fail(FAULT_TOKEN);
+                    return;
                 }
-                return countKnot() && await(NOT);
+                told.knots++;
+                await(NOT, told.knots <= MOST_KNOTS);
+            } else if (kind == NUMBER || kind >= BY && kind <= YEAR) {
+                told.knots++;
+                if (told.knots > MOST_KNOTS || kind == NUMBER && tape.value > MOST_IN_LAW) {
+                    fail(FAULT_TOO_MUCH);
+                    return;
+                }
+                law.append(kind, tape.value);
+            } else {
+                fail(FAULT_TOKEN);
             }
-            if (kind != NUMBER && (kind < BY || kind > YEAR)) {
-                return fail(FAULT_TOKEN);
-            }
-            if (!countKnot()) {
-                return false;
-            }
-            if (tape.value > 9999 && kind == NUMBER) {
-                return fail(FAULT_TOO_MUCH);
-            }
-            law.append(kind, tape.value);
-            return true;
         }
 
-        private boolean takeSign(Law law, int kind) {
+        private void takeSign(Law law, int kind) {
             int binds = binding(kind);
             release(law, binds == BINDS_COMPARE ? BINDS_SUM : binds);
-            boolean second = waits > 0 && binding(waiting[waits - 1]) == BINDS_COMPARE && binds == BINDS_COMPARE;
-            if (second) {
-                return fail(FAULT_TOKEN);
-            }
-            return countKnot() && await(kind);
-        }
-
-        private boolean countKnot() {
-            if (told.knots >= MOST_KNOTS) {
-                return fail(FAULT_TOO_MUCH);
+            if (binds == BINDS_COMPARE && waits > 0 && binding(waiting[waits - 1]) == BINDS_COMPARE) {
+                fail(FAULT_TOKEN);
+                return;
             }
             told.knots++;
-            return true;
+            await(kind, told.knots <= MOST_KNOTS);
         }
 
-        private boolean await(int kind) {
-            if (waits >= waiting.length) {
-                return fail(FAULT_TOO_MUCH);
+        private void takeClose(Law law) {
+            release(law, BINDS_OR);
+            if (waits > 0) {
+                waits--;
+            }
+            open--;
+        }
+
+        private void await(int kind, boolean allowed) {
+            if (!allowed || waits >= waiting.length) {
+                fail(FAULT_TOO_MUCH);
+                return;
             }
             waiting[waits] = kind;
             waits++;
-            return true;
         }
 
         /** Signs that wait on top and bind at least so tightly have all that belongs to them. */
@@ -1600,9 +1619,9 @@ public final class LastHouse {
                 return;
             }
             nameMan(told, state, man, pinch);
-            int bears = way == BEARS_NOTHING ? 0 : cut(valueOf(told.bear), 999, 10);
+            int bears = way == BEARS_NOTHING ? 0 : cut(told.bear.worth(names, stack), 999, 10);
             if (pinch > bears) {
-                int more = cut(valueOf(told.corn), 9, 1);
+                int more = cut(told.corn.worth(names, stack), 9, 1);
                 state.corns[man] = Math.min(MOST_CORNS, state.corns[man] + 1);
                 state.bump[man] = Math.min(MOST_BUMP, state.bump[man] + more);
             }
@@ -1628,13 +1647,13 @@ public final class LastHouse {
             names[4] = 0;
             names[5] = state.layers[deed.house];
             names[6] = state.year;
-            return valueOf(told.thick);
+            return told.thick.worth(names, stack);
         }
 
         /** E of bear or corn of one of the folk as all is now, or ERROR. */
         long folkLawOf(Told told, State state, int man, Law law) {
             nameMan(told, state, man, state.pinchOf(told, man));
-            return valueOf(law);
+            return law.worth(names, stack);
         }
 
         private void nameMan(Told told, State state, int man, int pinch) {
@@ -1646,10 +1665,6 @@ public final class LastHouse {
             names[4] = state.corns[man];
             names[5] = state.layers[state.house[man]];
             names[6] = state.year;
-        }
-
-        private long valueOf(Law law) {
-            return law.isTold ? law.worth(names, stack) : ERROR;
         }
 
         /** A value cut to 0 .. most; what stands for it with an ERROR. */

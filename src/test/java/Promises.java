@@ -230,6 +230,11 @@ public final class Promises {
         faulty("house a 99999999999999999999999999;", 2, 8);
         faulty("house a 4294967297;", 2, 8);
         good("house a 00000000000000000000000000099;", 1);
+        faulty("house a 100;", 2, 8);
+        faulty("seed 100000;", 2, 5);
+        faulty("damp 101;", 2, 5);
+        faulty("strip 100;", 2, 6);
+        good("house a 1;man m a 0 0 0;", 2);
         String house = "house a 1;";
         good(house + "man m a 99 7 20;", 2);
         faulty(house + "man m a 100 7 20;", 2, 18);
@@ -248,6 +253,7 @@ public final class Promises {
         good(deeds.toString(), 15);
         faulty(deeds + " add a 1 1 1;", 2, 207);
         faulty(deeds + " slice b 1 1 1;", 2, 207);
+        faulty(house + "add a 8 1 1;", 2, 16);
         faulty(house + "slice a 1 0 1;", 2, 20);
         faulty(house + "slice a 1 21 1;", 2, 20);
         faulty(house + "slice a 1 1 100;", 2, 22);
@@ -266,6 +272,22 @@ public final class Promises {
         good("law bear ((((((((1)))))))) + ((((((((1))))))));", 1);
         faulty("law bear (((((((((1)))))))));", 2, 17);
         knots();
+        cutShort();
+    }
+
+    /** What stands on the tape behind the text isn't looked at. */
+    private static void cutShort() {
+        String whole = "law thick 12 <= year;";
+        int[][] cuts = {{1, 1, 0}, {9, 1, 9}, {14, 1, 14}, {15, 1, 15}, {18, 1, 16}, {20, 1, 20}, {11, 1, 11}};
+        for (int[] cut : cuts) {
+            LastHouse x = new LastHouse();
+            int[] row = Tester.numbers(Tester.bytes(whole));
+            x.feed(row[0], row[1], row[2], row[3], row[4]);
+            x.feed(row[5], row[6], row[7], row[8], row[9]);
+            due("text(" + cut[0] + ")", x.text(cut[0]), NONE);
+            due("fault of text(" + cut[0] + ")", x.fault(0), cut[1]);
+            due("place of text(" + cut[0] + ")", x.fault(1), cut[2]);
+        }
     }
 
     private static void knots() {
@@ -280,6 +302,8 @@ public final class Promises {
         faulty(sum + ";law corn not by;", 2, 86);
         faulty(sum + "+1;", 2, 73);
         faulty(sum + ";law corn 1;law thick 1;", 2, 94);
+        good("law bear " + "not ".repeat(63) + "((((((((1))))))));", 1);
+        due("all knots wait", told("law bear " + "not ".repeat(63) + "((((((((1))))))));").count(3), 64);
         LastHouse x = told("law thick not(by*zone+much<=3)or pinch/corns-layers<>year and 7;");
         due("knots", x.count(3), 18);
     }
@@ -367,6 +391,12 @@ public final class Promises {
         due("what -1", x.layer(0, 0, -1), LEAST);
         due("house 3", x.layer(3, 0, 0), LEAST);
         due("house -1", x.layer(-1, 0, 0), LEAST);
+        x.lay(2, 4, 11);
+        x.lay(2, 3, -12);
+        due("zone of house 2", x.layer(2, 1, 1), 3);
+        due("by of house 2", x.layer(2, 1, 2), -12);
+        due("by of house 2", x.layer(2, 0, 2), 11);
+        due("by of house 0 stays", x.layer(0, 0, 2), 9);
         due("house without", x.layer(1, 0, 0), 0);
         due("house without, k 0", x.layer(1, 0, 1), LEAST);
     }
@@ -439,7 +469,11 @@ public final class Promises {
         worth("2=2", 1);
         worth("2<>2", 0);
         worth("1+1<3*1", 1);
+        worth("2<=2", 1);
+        worth("1<>2", 1);
         worth("5 and 7", 1);
+        worth("1 and 7", 1);
+        worth("7 and 1", 1);
         worth("5 and 0", 0);
         worth("0 or 9", 1);
         worth("0 or 0", 0);
@@ -458,6 +492,7 @@ public final class Promises {
         worth("0*(1/0)", error);
         worth("0/5", 0);
         worth("1000*1000*1000*1000", 1000000000000L);
+        worth("1000*1000*1000*1000-1+1", 1000000000000L);
         worth("1000*1000*1000*1000+1", error);
         worth("1000*1000*1000*1000+1-1", error);
         worth("0-1000*1000*1000*1000", -1000000000000L);
@@ -578,6 +613,16 @@ public final class Promises {
         LastHouse most = told("house h 0;man m h 99 0 20;man n h 99 0 20;law bear 999+(year>0);law corn 9;");
         most.go(5);
         due("corns", Tester.man(most, 0, 4), 0);
+        LastHouse bears = told("house h 0;man m h 99 0 20;law bear 9999;");
+        for (int k = 0; k < 9; k++) {
+            bears.lay(0, 0, -20);
+        }
+        bears.lay(0, 0, -7);
+        bears.go(1);
+        due("a pinch of 999", Tester.man(bears, 0, 4), 0);
+        bears.lay(0, 0, -1);
+        bears.go(1);
+        due("a pinch of 1000", Tester.man(bears, 0, 4), 1);
         LastHouse full = told(PLAIN + "add ha 0 1 0;add ha 0 1 0;add ha 0 1 1;");
         for (int k = 0; k < 11; k++) {
             full.lay(0, 0, 1);
@@ -613,6 +658,12 @@ public final class Promises {
         x.go(1);
         due("a last above it", x.last(0, 0), 1003);
         // The numbers by seed 0: 0, 21468, 9988, 22117: modulo 100 these are 0, 68, 88, 17.
+        LastHouse once = told("house h 10;strip 1;");
+        once.lay(0, 0, 1);
+        once.go(1);
+        due("not yet", once.last(0, 0), 11);
+        once.go(1);
+        due("stripped once", once.last(0, 0), 10);
         LastHouse y = told("house h 10;damp 18;");
         int[] want = {11, 11, 11, 12};
         for (int year = 0; year < 4; year++) {
@@ -642,6 +693,11 @@ public final class Promises {
         due("refused", x.count(8), 1);
         x.go(1);
         due("wed already; of one house", x.count(8), 3);
+        LastHouse second = told(PLAIN + "wed mb ma 0;");
+        second.go(1);
+        due("the first one's house is the second house", second.last(1, 3), 25);
+        due("the first house stays", second.last(0, 3), 20);
+        due("ma is of it", Tester.man(second, 0, 0), 1);
         due("mc is not wed", Tester.man(x, 2, 5), 0);
     }
 
@@ -657,6 +713,9 @@ public final class Promises {
         due("wed", x.ahead(3, 3, -7), 0);
         due("wed", x.ahead(4, 3, -7), 2);
         due("refused", x.ahead(4, 4, -7), 1);
+        LastHouse again = told(PLAIN + "wed ma mb 0;wed ma mc 0;wed ma mc 1;wed mb mc 2;");
+        again.go(1);
+        due("refused more", again.ahead(9, 4, 0), 2);
         due("n 0", x.ahead(0, 0, 0), 0);
         due("n 0, last", x.ahead(0, 2, 0), 160);
         due("n -1", x.ahead(-1, 0, 0), LEAST);
@@ -765,6 +824,11 @@ public final class Promises {
         due("n -1", y.ease(0, -1), NONE);
         due("man 1", y.ease(1, 0), NONE);
         due("man -1", y.ease(-1, 0), NONE);
+        LastHouse other = told("house h 20;house g 30;man m g 30 0 0;");
+        other.lay(0, 0, 1);
+        other.lay(1, 0, 2);
+        other.lay(1, 0, 3);
+        due("of the second house", other.ease(0, 2), 2);
         LastHouse all = told("house h 20;man m h 20 0 0;");
         for (int k = 0; k < 12; k++) {
             all.lay(0, k % 8, 2);
@@ -796,6 +860,9 @@ public final class Promises {
                 pairs(told("house a 10;house b 20;man m a 14 0 0;man n a 8 0 0;man o b 40 0 0;")),
                 "1,0,-2,-2,-2,-2,2,64");
         T.dueRow("no folk", pairs(told(houses)), "-2,-2,-2,-2,-2,-2,0,0");
+        T.dueRow("all", pairs(told("house a 10;house b 20;house c 30;house d 40;house e 50;house f 60;man a a 61 0 0;"
+                + "man b a 52 0 0;man c a 43 0 0;man d a 34 0 0;man e a 25 0 0;man f a 16 0 0;man g a 9 0 0;"
+                + "man h a 11 0 8;")), "6,5,3,2,1,0,6,120");
         due("what 8", told(PLAIN).match(8), NONE);
         due("what -1", told(PLAIN).match(-1), NONE);
     }
@@ -890,6 +957,13 @@ public final class Promises {
         }
         // Both rasp 10, yield to a rasp 10: nobody would have more.
         resting(ten, "4,0,1,10,11");
+        LastHouse near = told("house a 10;house b 10;");
+        near.lay(0, 0, 3);
+        // LIKENESS 3: both yield 0, and rasp alone 0.
+        resting(near, "2,0,11,-2,-2");
+        near.lay(0, 0, 1);
+        // LIKENESS 4: who rasps alone has 1.
+        resting(near, "1,0,-2,-2,-2");
     }
 
     private static void dry() {
@@ -949,6 +1023,12 @@ public final class Promises {
         due("walkers", x.walkers(), 2);
         x.lay(2, 7, 2);
         due("walkers", x.walkers(), 6);
+        x.lay(0, 0, 7);
+        for (int zone = 1; zone < 8; zone++) {
+            due("not yet", x.walkers(), 6);
+            x.lay(0, zone, 2);
+        }
+        due("all walk", x.walkers(), 7);
         due("no folk", new LastHouse().walkers(), 0);
         due("barest", x.barest(), 2);
         due("the first of several", told("house h 9;man a h 3 0 9;man b h 4 1 0;man c h 3 2 8;").barest(), 1);
@@ -980,6 +1060,7 @@ public final class Promises {
         due("a 25th", x.see(1, 0, 0, true), NONE);
         due("a 25th strike", x.strike(0), NONE);
         due("seen", x.count(10), 24);
+        due("bumps by 24", x.bumps(0), 0x1fffff);
     }
 
     private static void known() {
@@ -1066,6 +1147,10 @@ public final class Promises {
         due("there are none", x.ask(0, 60, 1), 0);
         x.known(1);
         due("known by one", x.ask(0, 60, 0), 6);
+        LastHouse y = told("house h 20;man m h 20 0 0;law bear 12*(year=0);");
+        // A bump of 0: no corn; 1 .. 12: 59 behind 60 years; above: 60.
+        due("sixty", y.ask(0, 60, 0), 60);
+        due("thirteen have fewer", y.ask(0, 60, 1), 13);
         due("man 1", x.ask(1, 1, 0), NONE);
         due("man -1", x.ask(-1, 1, 0), NONE);
         due("n 0", x.ask(0, 0, 0), NONE);
@@ -1091,6 +1176,7 @@ public final class Promises {
         due("at least one", x.chance(0, 2, 0, 1), 10);
         due("at least none", x.chance(2147483647, 99, 0, 0), 10);
         due("three", x.chance(0, 2, 0, 3), 0);
+        due("n 1", x.chance(0, 1, 0, 1), 10);
         due("seed -1", x.chance(-1, 2, 0, 2), NONE);
         due("n 0", x.chance(0, 0, 0, 2), NONE);
         due("n 100", x.chance(0, 100, 0, 2), NONE);
@@ -1125,6 +1211,10 @@ public final class Promises {
         due("n 0", x.tried(4, 0, 0), 0);
         due("n -1", x.tried(4, 0, -1), NONE);
         due("n 201", x.tried(4, 0, 201), NONE);
+        due("n 200", told(PLAIN).tried(0, 0, 200), 200);
+        LastHouse later = told(PLAIN);
+        later.go(3);
+        due("corns more from now", later.tried(0, 0, 2), 2);
         due("what 5", x.tried(5, 0, 1), NONE);
         due("what -1", x.tried(-1, 0, 1), NONE);
         due("i 1 of 0", x.tried(0, 1, 1), NONE);
@@ -1165,6 +1255,19 @@ public final class Promises {
             x.move(0, 1 + k % 2);
         }
         due("20 at most", x.count(12), 20);
+        LastHouse z = told("house h 20;");
+        for (int k = 1; k <= 12; k++) {
+            z.lay(0, 0, k);
+        }
+        for (int k = 1; k <= 12; k++) {
+            z.peel(0);
+        }
+        for (int k = 19; k >= 0; k--) {
+            due("undo", z.undo(), k);
+        }
+        due("the first four stay done", z.layer(0, 0, 0), 4);
+        due("as they were", z.last(0, 0), 20 + 1 + 2 + 3 + 4);
+        due("the fourth", z.layer(0, 3, 2), 4);
         x.go(0);
         due("no year went by", x.count(12), 20);
         x.keep();
