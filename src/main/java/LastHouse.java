@@ -832,7 +832,7 @@ public final class LastHouse {
         /** The value of E by the names' values; ERROR also without a law. */
         long worth(int[] names, long[] stack) {
             int top = 0;
-            for (int i = 0; i < size; i++) {
+            for (int i = 0; i < size && top < stack.length; i++) {
                 int k = kind[i];
                 if (k == NUMBER) {
                     stack[top] = value[i];

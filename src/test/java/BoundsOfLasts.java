@@ -13,6 +13,7 @@ public final class BoundsOfLasts {
     private static final int[] NEVER = {LEAST, LEAST + 1, -1000, -2, -1, 14, 100, 1 << 16, 1 << 28, 1 << 29, 1 << 30, MOST - 1,
         MOST};
     private static Sentences s;
+    private static String kept = "";
 
     public static void main(String[] args) throws Exception {
         s = new Sentences(6, 7, 8, 9, 10, 11, 12, 13, 17, 18, 19, 20, 27, 28, 29, 30, 31, 39);
@@ -287,6 +288,10 @@ public final class BoundsOfLasts {
         worth("(1000*1000+1)*(1000*1000-1)", 999999999999L);
         worth("9999*9999*9999", 9999L * 9999 * 9999);
         worth("9999*9999*9999*9999", ERROR);
+        s.says(10, "VALUES are longs;");
+        worth("9999*9999*9999*1", 999700029999L);
+        worth("1024*1024*1024*2", 2147483648L);
+        worth("0-1024*1024*1024*2-1", -2147483649L);
         // Products that would wrap around, a long's and an int's, and come back into the range.
         worth(million + "*" + million + "*(" + million + "*" + million + ")", ERROR);
         worth("1024*1024*1024*256*(1024*1024*64)", ERROR);
@@ -440,6 +445,8 @@ public final class BoundsOfLasts {
         due("below 0", x.heart(7), 99 - 140);
         due("zone 6", x.heart(6), 0);
         due("one house", told("house a 7;").heart(3), 7);
+        due("the first of three", told("house a 7;house b 8;house c 9;").heart(0), 7);
+        due("the second of three", told("house a 8;house b 7;house c 9;").heart(0), 7);
         s.says(19, "Integer.MIN_VALUE: no such ZONE, there are no HOUSES.");
         due("heart(8)", x.heart(8), LEAST);
         for (int k : NEVER) {
@@ -538,6 +545,8 @@ public final class BoundsOfLasts {
         due("the sixth", x.knee(), 5);
         x.lay(3, 0, 1);
         due("the first of two", x.knee(), 3);
+        x.lay(1, 0, 1);
+        due("the second house", x.knee(), 1);
         x.lay(5, 0, -1);
         due("the sixth has two", x.knee(), 5);
         due("one house", told("house a 1;").knee(), 0);
@@ -634,7 +643,35 @@ public final class BoundsOfLasts {
         }
         due("none", y.undo(), NONE);
         due("the first two moves stay", Tester.man(y, 0, 0), 2);
+        LastHouse z = told(PLAIN);
+        for (int k = 0; k < 24; k++) {
+            switch (k % 4) {
+                case 0 -> z.lay(k % 3, k % 8, 1 + k % 5);
+                case 1 -> z.move(k % 3, (Tester.man(z, k % 3, 0) + 1) % 3);
+                case 2 -> z.lay((k + 1) % 3, k % 8, -1 - k % 5);
+                default -> due("peel", z.peel(k % 3) >= 0 ? 1 : 0, 1);
+            }
+            if (k == 3) {
+                kept = shown(z);
+            }
+        }
+        due("twenty of 24", z.count(12), 20);
+        for (int left = 19; left >= 0; left--) {
+            due("undo()", z.undo(), left);
+        }
+        s.dueRow("all is as behind the fourth", shown(z), kept);
         fullRow();
+    }
+
+    private static String shown(LastHouse x) {
+        StringBuilder row = new StringBuilder();
+        for (int k = 0; k < 3; k++) {
+            row.append(Tester.man(x, k, 0)).append(' ').append(x.layer(k, 0, 0)).append(' ');
+            for (int zone = 0; zone < 8; zone++) {
+                row.append(x.last(k, zone)).append(' ');
+            }
+        }
+        return row.toString();
     }
 
     /** Twelve layers put on, and all peeled off: the last twenty of these are undone, in a row that is full in between. */

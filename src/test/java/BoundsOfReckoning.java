@@ -97,6 +97,9 @@ public final class BoundsOfReckoning {
             three.lay(h, h, 1);
         }
         due("three", three.join(), 4);
+        due("three again", three.join(), 4);
+        three.lay(0, 0, 20);
+        due("three, one farther off", three.join(), 24);
     }
 
     private static void game() {

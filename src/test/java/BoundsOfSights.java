@@ -17,6 +17,7 @@ public final class BoundsOfSights {
         atLeastOrFewer();
         strike();
         strikes();
+        knownAtFirst();
         known();
         bumps();
         bumpsOfNone();
@@ -170,6 +171,23 @@ public final class BoundsOfSights {
         due("both strikes are struck", twice.bumps(0), above);
         twice.known(4);
         due("by four", twice.bumps(0), ALL);
+    }
+
+    private static void knownAtFirst() {
+        s.says(34, "KNOWN by n (all at first)");
+        LastHouse x = told(ONE);
+        due("none", x.count(11), 0);
+        for (int k = 0; k < 24; k++) {
+            x.see(1, 0, 1, k < 23);
+            due("all", x.count(11), k + 1);
+        }
+        due("the last one counts, too", x.bumps(0), 0);
+        x.known(23);
+        due("all but the last one", x.bumps(0), ALL & ~((1 << 11) - 1));
+        x.keep();
+        x.known(0);
+        due("back()", x.back(), 0);
+        due("what was seen stays", x.count(10), 24);
     }
 
     private static void known() {

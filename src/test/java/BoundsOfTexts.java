@@ -17,6 +17,7 @@ public final class BoundsOfTexts {
         fullTape();
         firstBytes();
         allAnew();
+        nothingOfTextsAhead();
         lines();
         allStays();
         tapeStays();
@@ -174,6 +175,23 @@ public final class BoundsOfTexts {
         due("feed", x.feed(row[0], row[1], row[2], row[3], row[4]), 20);
         due("text(6)", x.text(6), NONE);
         due("the ';' behind it isn't looked at", x.fault(1), 6);
+        cutInside("damp 12;", 6, 1, 6);
+        cutInside("damp 123;", 7, 1, 7);
+        cutInside("damp 123;", 8, 2, 5);
+        cutInside("house abc 1;", 8, 1, 8);
+        cutInside("house abcdefg 1;", 12, 1, 12);
+        cutInside("house abcdefg 1;", 13, 1, 6);
+        cutInside("houses 1;", 5, 1, 5);
+    }
+
+    /** A text that ends inside a word or a number: letters and digits behind it are none of it. */
+    private static void cutInside(String fed, int n, int kind, int place) {
+        LastHouse x = new LastHouse();
+        int[] row = Tester.numbers(Tester.bytes(fed));
+        x.feed(row[0], row[1], row[2], row[3], row[4]);
+        due("text(" + n + ") of " + fed, x.text(n), NONE);
+        due("the fault", x.fault(0), kind);
+        due("the place", x.fault(1), place);
     }
 
     private static void allAnew() {
@@ -209,6 +227,65 @@ public final class BoundsOfTexts {
         due("undo()", x.undo(), NONE);
         due("back()", x.back(), NONE);
         due("back() left the year", x.count(4), 0);
+    }
+
+    private static void nothingOfTextsAhead() {
+        s.says(3, "are the TEXT");
+        String full = "house a 10;house b 20;man m a 30 1 3;man n b 5 2 4;add a 0 1 1;wed m n 0;strip 1;damp 60;seed 7;"
+                + "law thick 1+2;law bear 0;law corn 4;";
+        String bare = "house c 9;man o c 9 0 11;add c 3 5 0;";
+        LastHouse x = told(full);
+        for (int round = 0; round < 3; round++) {
+            due("full", Tester.tell(x, full), 12);
+            due("knots", x.count(3), 5);
+            due("full again", Tester.tell(x, full), 12);
+            due("bare", Tester.tell(x, bare), 3);
+            due("houses", x.count(0), 1);
+            due("folk", x.count(1), 1);
+            due("deeds", x.count(2), 1);
+            due("knots", x.count(3), 0);
+            due("dry(1, 0)", x.dry(1, 0), 1);
+            for (int what = 0; what < 3; what++) {
+                due("law(" + what + ", 0)", x.law(what, 0), Long.MIN_VALUE);
+            }
+            due("refused ahead", x.ahead(9, 4, 0), 0);
+            x.go(1);
+            due("thick as told", x.last(0, 3), 14);
+            due("bear 10, corn 1", Tester.man(x, 0, 3), 12);
+            x.go(4);
+            due("no strip", x.count(6), 1);
+            due("no damp", x.last(0, 0), 9);
+            due("nobody is wed", x.count(7), 0);
+            due("a text of one law", Tester.tell(x, "house c 9;man o c 9 0 11;law bear 3;"), 3);
+            due("its law", x.law(1, 0), 3);
+            due("no deeds", x.count(2), 0);
+            due("blanks", Tester.tell(x, " "), 0);
+            due("no folk", x.count(1), 0);
+        }
+        // A seed of a text ahead is none of this one.
+        LastHouse seeded = told("house a 0;damp 50;seed 1;");
+        Tester.tell(seeded, "house a 0;damp 50;seed 1;");
+        Tester.tell(seeded, "house a 0;damp 50;");
+        LastHouse fresh = told("house a 0;damp 50;seed 0;");
+        for (int year = 0; year < 30; year++) {
+            seeded.go(1);
+            fresh.go(1);
+            due("year " + year, seeded.last(0, 0), fresh.last(0, 0));
+        }
+        behindFaults();
+    }
+
+    /** What a faulty text left half read is nothing to the next one. */
+    private static void behindFaults() {
+        LastHouse x = new LastHouse();
+        for (String bad : new String[] {"law bear ((((((((1+", "law bear not not not", "law bear 1+2*3<4 and 5 or",
+            "law bear 1" + "+1".repeat(32), "law bear (((((((((", "house a 1;man m a 1 1 1;damp 1;seed 1;law thick 1;#"}) {
+            due("a fault", Tester.tell(x, bad), NONE);
+            due("a good one", Tester.tell(x, "house h 20;man m h 23 4 5;damp 3;seed 1;law bear ((((((((1))))))))+2;"), 5);
+            due("its law", x.law(1, 0), 3);
+            due("no other law", x.law(0, 0), Long.MIN_VALUE);
+            due("its knots", x.count(3), 3);
+        }
     }
 
     private static void lines() {
@@ -414,6 +491,8 @@ public final class BoundsOfTexts {
         worth("2<=2", 1);
         worth("2>=2", 1);
         worth("2<>2", 0);
+        worth("3<>2", 1);
+        worth("1<>2", 1);
         worth("2=2", 1);
         s.faulty("law bear 2< =2;", 1, 12);
         s.faulty("law bear 2> =2;", 1, 12);

@@ -15,6 +15,8 @@ public final class BoundsOfYears {
         thick();
         thickOfASlice();
         refusedLayer();
+        namesOfLaws();
+        byTheirNumbers();
         weddings();
         refusedWeddings();
         bear();
@@ -150,6 +152,53 @@ public final class BoundsOfYears {
         due("the layer is there", y.last(0, 0), 2);
         due("refused more ahead", told("house a 0;" + "add a 0 1 5;".repeat(14)).ahead(6, 4, 0), 2);
         due("not yet", told("house a 0;" + "add a 0 1 5;".repeat(14)).ahead(5, 4, 0), 0);
+        due("more than now", after("house a 0;" + "add a 0 1 5;".repeat(14), 6).ahead(6, 4, 0), 0);
+    }
+
+    private static void namesOfLaws() {
+        s.says(14, "NAMES: by: how much is told of the DEED (of bear, corn 0); zone: its ZONE (of bear, corn that of the BUMP); "
+                + "much: the LAST there as it is (of bear, corn that of the HOUSE in the ZONE of the BUMP); pinch: PINCH of the one "
+                + "of the FOLK (of thick 0); corns: CORNS of that one (of thick 0); layers: how many LAYERS the LAST has; year: the "
+                + "YEAR.");
+        String text = "house a 20;house b 30;man m b 50 6 2;add a 5 9 3;add b 5 1 0;";
+        String[] names = {"by", "zone", "much", "pinch", "corns", "layers", "year"};
+        // Behind three years: the last of b has a layer in zone 5, and m three corns, a bump of 5.
+        int[] thick = {9, 5, 20, 0, 0, 0, 3};
+        int[] bear = {0, 6, 30, 7 * 20 + 25 - 1, 3, 1, 3};
+        for (int k = 0; k < names.length; k++) {
+            LastHouse x = told(text + "law thick " + names[k] + ";");
+            LastHouse y = told(text + "law bear " + names[k] + "*(year>2);");
+            LastHouse z = told(text + "law corn " + names[k] + "*(year>2)+(year<3);");
+            x.go(3);
+            y.go(3);
+            z.go(3);
+            due(names[k] + " of thick", x.law(0, 0), thick[k]);
+            due(names[k] + " of thick, in its year", x.ahead(1, 2, 0), 160 + thick[k]);
+            due(names[k] + " of corn", z.law(2, 0), bear[k]);
+            due(names[k] + " of bear", y.law(1, 0), bear[k]);
+            due(names[k] + " of corn, in its year", z.tried(0, 0, 1), 1);
+        }
+    }
+
+    private static void byTheirNumbers() {
+        s.says(14, "DEEDS of this YEAR, by their numbers:");
+        // Twelve are full: the two that are told last are refused, whatever they are.
+        LastHouse full = after("house a 0;add a 1 9 1;" + "add a 0 1 0;".repeat(11) + "slice a 2 7 0;add a 3 8 0;", 1);
+        due("the twelfth of year 0", full.last(0, 2), -7);
+        due("the thirteenth of year 0", full.last(0, 3), 0);
+        due("refused", full.count(8), 1);
+        full.go(1);
+        due("told first, but of a later year", full.last(0, 1), 0);
+        due("refused", full.count(8), 2);
+        s.says(14, "WEDDINGS of this YEAR, by their numbers:");
+        String folk = "house a 10;house b 20;man m a 0 0 0;man n b 0 0 0;man o b 0 0 0;";
+        LastHouse first = after(folk + "wed m o 0;wed m n 0;", 1);
+        due("the first told", Tester.man(first, 2, 5), 1);
+        due("the second told", Tester.man(first, 1, 5), 0);
+        LastHouse later = after(folk + "wed m o 1;wed m n 0;", 2);
+        due("the second told is of an earlier year", Tester.man(later, 1, 5), 1);
+        due("the first told is refused", Tester.man(later, 2, 5), 0);
+        due("refused", later.count(8), 1);
     }
 
     private static void weddings() {
@@ -348,6 +397,12 @@ public final class BoundsOfYears {
             due("number " + number + " is below one more", y.sum(1), before + 8);
             due("of each house", y.sum(0), before + 8);
         }
+        LastHouse six = after("house a 0;house b 0;house c 0;house d 0;house e 0;house f 0;damp 100;", 3);
+        for (int h = 0; h < 6; h++) {
+            for (int zone = 0; zone < 8; zone++) {
+                due("each zone of each of six", six.last(h, zone), 3);
+            }
+        }
     }
 
     private static void mostWood() {
@@ -506,6 +561,12 @@ public final class BoundsOfYears {
         due("200", told(one + "199;").firstCorn(0), -2);
         due("200, who", told(one + "199;").firstCorn(1), -2);
         due("never", told(one + "9999;").firstCorn(0), -2);
+        StringBuilder eight = new StringBuilder("house a 9;");
+        for (char c = 'a'; c <= 'h'; c++) {
+            eight.append("man ").append(c).append(c == 'h' ? " a 9 0 10;" : " a 9 0 0;");
+        }
+        due("eight folk", told(eight.toString()).firstCorn(0), -2);
+        due("eight folk, the last one", told(eight + "law bear 9;").firstCorn(1), 7);
         due("no folk", told("house a 1;").firstCorn(0), -2);
         due("no folk, who", told("house a 1;").firstCorn(1), -2);
         due("a new object", new LastHouse().firstCorn(1), -2);
@@ -657,7 +718,7 @@ public final class BoundsOfYears {
             due("the numbers are as they were", x.last(1, 0), firstWood);
             due("wed", x.count(7), 2);
             due("refused", x.count(8), 1);
-            x.peel(0);
+            x.lay(0, 5, 9);
             x.lay(1, 0, 7);
             x.move(1, 1);
             due("seen", x.see(1, 0, 1, true), round + 1);
@@ -665,6 +726,8 @@ public final class BoundsOfYears {
             due("nothing to undo", x.count(12), 0);
             due("undo()", x.undo(), NONE);
             due("layers", x.count(6), 1);
+            due("the layer's zone", x.layer(0, 0, 1), 3);
+            due("the layer", x.layer(0, 0, 2), 4);
             due("last(0, 3)", x.last(0, 3), 14);
             due("last(1, 0)", x.last(1, 0), 20);
             due("house of n", Tester.man(x, 1, 0), 1);
