@@ -675,6 +675,20 @@ public final class BoundsOfTexts {
         }
         s.faulty("damp -1;", 1, 5);
         s.faulty("damp +1;", 1, 5);
+        // A word is left out, and what is behind it would do without.
+        s.faulty("law;", 1, 3);
+        s.faulty("law 1;", 1, 4);
+        s.faulty("house 1;", 1, 6);
+        s.faulty("house;", 1, 5);
+        s.faulty(HOUSE + "man a 1 1 1;", 1, 16);
+        s.faulty(HOUSE + "man m 1 1 1;", 1, 16);
+        s.faulty(HOUSE + "add 1 1 1;", 1, 14);
+        s.faulty(HOUSE + "slice 1 1 1;", 1, 16);
+        s.faulty(TWO + "wed 1;", 1, 42);
+        s.faulty(TWO + "wed m 1;", 1, 44);
+        s.faulty("strip;", 1, 5);
+        s.faulty("seed ;", 1, 5);
+        s.faulty(HOUSE + "man m a 1 1;", 1, 21);
         s.faulty("law house 1;", 1, 4);
         s.faulty("law corns 1;", 1, 4);
         s.faulty("law x 1;", 1, 4);

@@ -160,11 +160,11 @@ public final class BoundsOfYears {
                 + "much: the LAST there as it is (of bear, corn that of the HOUSE in the ZONE of the BUMP); pinch: PINCH of the one "
                 + "of the FOLK (of thick 0); corns: CORNS of that one (of thick 0); layers: how many LAYERS the LAST has; year: the "
                 + "YEAR.");
-        String text = "house a 20;house b 30;man m b 50 6 2;add a 5 9 3;add b 5 1 0;";
+        String text = "house a 20;house b 30;man m b 50 5 2;add a 4 9 3;add b 5 1 0;";
         String[] names = {"by", "zone", "much", "pinch", "corns", "layers", "year"};
-        // Behind three years: the last of b has a layer in zone 5, and m three corns, a bump of 5.
-        int[] thick = {9, 5, 20, 0, 0, 0, 3};
-        int[] bear = {0, 6, 30, 7 * 20 + 25 - 1, 3, 1, 3};
+        // Behind three years: the last of b has a layer in zone 5, 31 there, and m three corns, a bump of 5.
+        int[] thick = {9, 4, 20, 0, 0, 0, 3};
+        int[] bear = {0, 5, 31, 7 * 20 + 24, 3, 1, 3};
         for (int k = 0; k < names.length; k++) {
             LastHouse x = told(text + "law thick " + names[k] + ";");
             LastHouse y = told(text + "law bear " + names[k] + "*(year>2);");
